@@ -331,10 +331,10 @@ public final class YardNames {
             return faulted(found);
         }
         Ship s = fleet[k];
-        int days = roughDays(s.bearing(), s.port, n);
+        int roughCount = roughDays(s.bearing(), s.port, n);
         int fitting = 0;
         for (int good = 0; good < GOODS; good++) {
-            fillLosses(s.carried, good, days, losses);
+            fillLosses(s.carried, good, roughCount, losses);
             if (row.standsAt(i, losses)) {
                 fitting |= 1 << good;
             }
@@ -653,8 +653,8 @@ public final class YardNames {
     }
 
     /** A piece goes each rough day: while there are any those of the NAME, then the least GOODS. */
-    private static void fillLosses(int[] carried, int namedAfter, int days, int[] lost) {
-        int left = days;
+    private static void fillLosses(int[] carried, int namedAfter, int roughCount, int[] lost) {
+        int left = roughCount;
         lost[namedAfter] = Math.min(left, carried[namedAfter]);
         left -= lost[namedAfter];
         for (int good = 0; good < GOODS; good++) {
@@ -970,30 +970,30 @@ public final class YardNames {
         private final int[] lost = new int[GOODS];
 
         /** Tries all rows, first ones first, so that only a better one takes the place of the best. */
-        void choose(int pieces, int namedAfter, int days) {
+        void choose(int pieces, int namedAfter, int roughCount) {
             leastLost = Integer.MAX_VALUE;
             mostLeft = 0;
             for (int a = 0; a <= Math.min(pieces, MOST_PIECES); a++) {
                 tried[0] = a;
                 for (int b = 0; b <= Math.min(pieces - a, MOST_PIECES); b++) {
                     tried[1] = b;
-                    chooseRest(pieces - a - b, namedAfter, days);
+                    chooseRest(pieces - a - b, namedAfter, roughCount);
                 }
             }
         }
 
-        private void chooseRest(int pieces, int namedAfter, int days) {
+        private void chooseRest(int pieces, int namedAfter, int roughCount) {
             for (int c = 0; c <= Math.min(pieces, MOST_PIECES); c++) {
                 tried[2] = c;
                 tried[3] = pieces - c;
                 if (tried[3] <= MOST_PIECES) {
-                    weigh(namedAfter, days);
+                    weigh(namedAfter, roughCount);
                 }
             }
         }
 
-        private void weigh(int namedAfter, int days) {
-            fillLosses(tried, namedAfter, days, lost);
+        private void weigh(int namedAfter, int roughCount) {
+            fillLosses(tried, namedAfter, roughCount, lost);
             int worthLost = worthOfAll(lost);
             int worthLeft = worthOfAll(tried) - worthLost;
             if (worthLost < leastLost || worthLost == leastLost && worthLeft > mostLeft) {
