@@ -8,6 +8,7 @@ public final class DaysTest {
         bearsJustSoMuch();
         loadAndOff();
         voyageAnswers();
+        voyageOfFive();
         voyageFirstWrong();
         voyageFirstLoser();
         voyageRefusals();
@@ -101,7 +102,11 @@ public final class DaysTest {
         C.due("nothing is changed", Checks.seen(x).equals(before) ? 1 : 0, 1);
         C.due("no days", x.voyage(1, 2, 8, 0, 0), 0);
         C.due("worth put off is not lost", toldOnce(x, 3, 0, 4), 0);
-        C.due("worth loaded is carried", toldOnce(x, 10, 0, 3), 18);
+        for (int g = 0; g < 4; g++) {
+            C.due("worth loaded, good " + g, toldOnce(x, 11, 1, g), 18 + g);
+            int left = g == 0 ? -100 : 16 - g;
+            C.due("worth put off, good " + g, toldOnce(x, 11, 1, 4 + g), left);
+        }
         C.due("0 days", toldOnce(x, 0, 0, 8), 0);
         C.due("9 days", toldOnce(x, 10, 9, 8), 2);
     }
@@ -109,6 +114,15 @@ public final class DaysTest {
     private static int toldOnce(YardNames x, int what, int first, int act) {
         Checks.putRow(x, 1, first, act);
         return x.voyage(1, 2, 0, 1, what);
+    }
+
+    private static void voyageOfFive() {
+        YardNames x = Checks.withSea(Checks.SEA + ";s3003333");
+        Checks.putRow(x, 1, 4, 3, 1, 8, 4, 7);
+        C.due("lost by all five", x.voyage(1, 2, 0, 3, 0), 4);
+        C.due("worth of the fifth", x.voyage(1, 2, 0, 3, 14), 26);
+        C.due("who are met of five", x.voyage(1, 2, 0, 3, 2), 14);
+        C.due("first to lose its name of five", x.voyage(1, 2, 0, 3, 4), 0);
     }
 
     private static void voyageFirstWrong() {

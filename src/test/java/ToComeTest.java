@@ -24,11 +24,18 @@ public final class ToComeTest {
         C.due("one more: too late", x.keeps(4), YardNames.NONE);
         x.off(4, 0, 7);
         C.due("none left", x.keeps(4), 0);
+        C.due("at once, then each sixth day", keepsOf("y000009;b0055000"), 25);
+        C.due("on the 31st day: too late", keepsOf("y000009;b0056000"), YardNames.NONE);
+        C.due("on the 30th day", keepsOf("y000009;b0005000"), 30);
         C.due("no ship 5", x.keeps(5), YardNames.UNKNOWN);
         C.due("keeps tells days that are not gone", x.many(2), 1);
         for (int wild : Checks.WILD) {
             C.due("keeps(" + wild + ")", x.keeps(wild), YardNames.UNKNOWN);
         }
+    }
+
+    private static int keepsOf(String text) {
+        return Checks.withSea(text).keeps(0);
     }
 
     private static void harbour() {
