@@ -21,6 +21,12 @@ final class Checks {
         }
     }
 
+    /** A call that answers a fault, which fault() tells, too. */
+    void faulted(YardNames x, String what, long got, int fault) {
+        due(what, got, -10 - fault);
+        due("fault() of " + what, x.fault(), fault);
+    }
+
     void end() {
         if (wrong != 0) {
             System.out.println(test + ": " + wrong + " answers are not as due");

@@ -167,9 +167,9 @@ public final class DaysTest {
     private static void voyageRefusals() {
         YardNames x = new YardNames();
         x.sheet(1, 2, 4);
-        fault(x, "nothing, ahead of no sea", x.voyage(0, 0, 0, 0, 0), 1);
-        fault(x, "cast, ahead of no sea", x.voyage(1, 1, 0, 0, 0), 2);
-        fault(x, "index, ahead of no sea", x.voyage(1, 2, 0, 3, 0), 3);
+        C.faulted(x, "nothing, ahead of no sea", x.voyage(0, 0, 0, 0, 0), 1);
+        C.faulted(x, "cast, ahead of no sea", x.voyage(1, 1, 0, 0, 0), 2);
+        C.faulted(x, "index, ahead of no sea", x.voyage(1, 2, 0, 3, 0), 3);
         C.due("no sea", x.voyage(1, 2, 0, 2, 0), YardNames.STATE);
         C.due("no sea is no fault", x.fault(), 0);
         C.due("sheet 4", x.voyage(4, 3, 0, 21, 5), YardNames.UNKNOWN);
@@ -182,18 +182,13 @@ public final class DaysTest {
         }
         x = Checks.withSea(Checks.SEA);
         Checks.putRow(x, 1, 0, 0, 0);
-        fault(x, "half a pair", x.voyage(1, 2, 0, 2, 0), 3);
-        fault(x, "from 2 on", x.voyage(1, 2, 2, 1, 0), 3);
-        fault(x, "none from 4 on", x.voyage(1, 2, 4, 0, 0), 3);
-        fault(x, "none from -1 on", x.voyage(1, 2, -1, 0, 0), 3);
-        fault(x, "from the edge of int on", x.voyage(1, 2, Integer.MAX_VALUE, 20, 0), 3);
+        C.faulted(x, "half a pair", x.voyage(1, 2, 0, 2, 0), 3);
+        C.faulted(x, "from 2 on", x.voyage(1, 2, 2, 1, 0), 3);
+        C.faulted(x, "none from 4 on", x.voyage(1, 2, 4, 0, 0), 3);
+        C.faulted(x, "none from -1 on", x.voyage(1, 2, -1, 0, 0), 3);
+        C.faulted(x, "from the edge of int on", x.voyage(1, 2, Integer.MAX_VALUE, 20, 0), 3);
         C.due("none from 3 on", x.voyage(1, 2, 3, 0, 0), 0);
         C.due("from 1 on", x.voyage(1, 2, 1, 1, 10), 15);
-    }
-
-    private static void fault(YardNames x, String what, long got, int fault) {
-        C.due(what, got, -10 - fault);
-        C.due("fault() of " + what, x.fault(), fault);
     }
 
     private static void voyagePairs() {

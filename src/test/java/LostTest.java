@@ -120,11 +120,11 @@ public final class LostTest {
         YardNames x = Checks.withSea(Checks.SEA);
         Checks.putRow(x, 2, 0, 0, 0, 0, 0);
         C.due("from 1 on", x.names(2, 2, 1, 0, 0), 15);
-        fault(x, "from 2 on", x.names(2, 2, 2, 0, 0), 3);
-        fault(x, "from -1 on", x.names(2, 2, -1, 0, 0), 3);
-        fault(x, "from the edge of int on", x.names(2, 2, Integer.MAX_VALUE, 0, 0), 3);
-        fault(x, "cast", x.names(2, 0, 9, 0, 0), 2);
-        fault(x, "nothing", x.names(3, 0, 9, 0, 0), 1);
+        C.faulted(x, "from 2 on", x.names(2, 2, 2, 0, 0), 3);
+        C.faulted(x, "from -1 on", x.names(2, 2, -1, 0, 0), 3);
+        C.faulted(x, "from the edge of int on", x.names(2, 2, Integer.MAX_VALUE, 0, 0), 3);
+        C.faulted(x, "cast", x.names(2, 0, 9, 0, 0), 2);
+        C.faulted(x, "nothing", x.names(3, 0, 9, 0, 0), 1);
         C.due("sheet 4", x.names(4, 3, 0, 0, 31), YardNames.UNKNOWN);
         C.due("fault() of it", x.fault(), 0);
         C.due("ship 4", x.names(3, 3, 0, 4, 31), YardNames.UNKNOWN);
@@ -139,11 +139,6 @@ public final class LostTest {
             C.due("names ship " + wild, x.names(2, 2, 0, wild, 0), YardNames.UNKNOWN);
             C.due("names n " + wild, x.names(2, 2, 0, 0, wild), YardNames.OUTSIDE);
         }
-    }
-
-    private static void fault(YardNames x, String what, long got, int fault) {
-        C.due(what, got, -10 - fault);
-        C.due("fault() of " + what, x.fault(), fault);
     }
 
     private static void share(String what, long upper, long lower, int wantUpper, int wantLower) {

@@ -96,31 +96,26 @@ public final class SeaTest {
         C.due("sheet -1", x.sea(-1, 0, 0, 41), YardNames.UNKNOWN);
         C.due("lane 3 of nothing", x.sea(3, 3, 0, 41), YardNames.OUTSIDE);
         C.due("lane -1", x.sea(0, -1, 0, 41), YardNames.OUTSIDE);
-        fault(x, "cast, ahead of size", x.sea(0, 1, 0, -1), 2);
-        fault(x, "cast of shorts", x.sea(1, 2, 0, 5), 2);
-        fault(x, "nothing, ahead of size", x.sea(3, 2, 0, -1), 1);
-        fault(x, "size, ahead of index", x.sea(0, 0, 42, -1), 4);
-        fault(x, "size at the edge of int", x.sea(0, 0, 0, Integer.MIN_VALUE), 4);
-        fault(x, "a cell too many", x.sea(0, 0, 0, 42), 3);
-        fault(x, "a cell too far", x.sea(0, 0, 1, 41), 3);
-        fault(x, "from -1 on", x.sea(0, 0, -1, 41), 3);
-        fault(x, "none from -1 on", x.sea(0, 0, -1, 0), 3);
-        fault(x, "none from 42 on", x.sea(0, 0, 42, 0), 3);
-        fault(x, "a sum that wraps", x.sea(0, 0, 41, Integer.MAX_VALUE), 3);
-        fault(x, "a sum that wraps", x.sea(0, 0, Integer.MAX_VALUE, Integer.MAX_VALUE), 3);
+        C.faulted(x, "cast, ahead of size", x.sea(0, 1, 0, -1), 2);
+        C.faulted(x, "cast of shorts", x.sea(1, 2, 0, 5), 2);
+        C.faulted(x, "nothing, ahead of size", x.sea(3, 2, 0, -1), 1);
+        C.faulted(x, "size, ahead of index", x.sea(0, 0, 42, -1), 4);
+        C.faulted(x, "size at the edge of int", x.sea(0, 0, 0, Integer.MIN_VALUE), 4);
+        C.faulted(x, "a cell too many", x.sea(0, 0, 0, 42), 3);
+        C.faulted(x, "a cell too far", x.sea(0, 0, 1, 41), 3);
+        C.faulted(x, "from -1 on", x.sea(0, 0, -1, 41), 3);
+        C.faulted(x, "none from -1 on", x.sea(0, 0, -1, 0), 3);
+        C.faulted(x, "none from 42 on", x.sea(0, 0, 42, 0), 3);
+        C.faulted(x, "a sum that wraps", x.sea(0, 0, 41, Integer.MAX_VALUE), 3);
+        C.faulted(x, "a sum that wraps", x.sea(0, 0, Integer.MAX_VALUE, Integer.MAX_VALUE), 3);
         C.due("none from 41 on", x.sea(0, 0, 41, 0), -100);
         C.due("and it is no fault", x.fault(), 0);
         C.due("none of an empty row", x.sea(2, 0, 0, 0), -100);
-        fault(x, "one of an empty row", x.sea(2, 0, 0, 1), 3);
+        C.faulted(x, "one of an empty row", x.sea(2, 0, 0, 1), 3);
         C.due("refused after a fault", x.sea(9, 0, 0, 0), YardNames.UNKNOWN);
         C.due("fault() of a refused one", x.fault(), 0);
         C.due("still no sea", x.many(0), 0);
         C.due("then a sea", x.sea(0, 0, 0, 41), 4);
-    }
-
-    private static void fault(YardNames x, String what, long got, int fault) {
-        C.due(what, got, -10 - fault);
-        C.due("fault() of " + what, x.fault(), fault);
     }
 
     private static void takenTextMakesAllAnew() {

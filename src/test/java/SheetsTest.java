@@ -16,11 +16,6 @@ public final class SheetsTest {
         C.end();
     }
 
-    private static void faulted(YardNames x, String what, long got, int fault) {
-        C.due(what, got, -10 - fault);
-        C.due("fault() of " + what, x.fault(), fault);
-    }
-
     private static void lost(YardNames x, String what, long got, int fault) {
         C.due(what, got, YardNames.LOST);
         C.due("fault() of " + what, x.fault(), fault);
@@ -35,8 +30,8 @@ public final class SheetsTest {
         C.due("a row of none", x.sheet(0, 0, 0), 1);
         lost(x, "has no cell", x.cell(0, 0, 0), 3);
         C.due("61", x.sheet(3, 2, 61), YardNames.OUTSIDE);
-        faulted(x, "-1", x.sheet(3, 2, -1), 4);
-        faulted(x, "edge of int", x.sheet(3, 2, Integer.MIN_VALUE), 4);
+        C.faulted(x, "-1", x.sheet(3, 2, -1), 4);
+        C.faulted(x, "edge of int", x.sheet(3, 2, Integer.MIN_VALUE), 4);
         C.due("-1, lane 3", x.sheet(3, 3, -1), YardNames.OUTSIDE);
         C.due("fault() of it", x.fault(), 0);
         C.due("-1, lane 3, sheet 4", x.sheet(4, 3, -1), YardNames.UNKNOWN);
@@ -91,9 +86,9 @@ public final class SheetsTest {
     private static void putAndCellFaults() {
         YardNames x = new YardNames();
         x.sheet(0, 1, 3);
-        faulted(x, "put 3", x.put(0, 3, 1), 3);
-        faulted(x, "put -1", x.put(0, -1, 1), 3);
-        faulted(x, "put on nothing", x.put(1, -1, 1), 1);
+        C.faulted(x, "put 3", x.put(0, 3, 1), 3);
+        C.faulted(x, "put -1", x.put(0, -1, 1), 3);
+        C.faulted(x, "put on nothing", x.put(1, -1, 1), 1);
         C.due("put on 4", x.put(4, -1, 1), YardNames.UNKNOWN);
         C.due("fault() of it", x.fault(), 0);
         lost(x, "cell 3", x.cell(0, 3, 1), 3);
@@ -143,23 +138,23 @@ public final class SheetsTest {
         x.sheet(2, 0, 5);
         C.due("sheet 4", x.copy(4, 0, 3, 0, 1), YardNames.UNKNOWN);
         C.due("sheet -1 for the other", x.copy(3, 0, -1, 0, 1), YardNames.UNKNOWN);
-        faulted(x, "from nothing", x.copy(3, -1, 0, 0, 1), 1);
-        faulted(x, "to nothing", x.copy(0, -1, 3, 0, 1), 1);
-        faulted(x, "from nothing to nothing", x.copy(3, -1, 3, 0, -1), 1);
-        faulted(x, "unlike lanes", x.copy(0, -1, 2, 0, -1), 2);
-        faulted(x, "none of unlike lanes", x.copy(0, 0, 2, 0, 0), 2);
-        faulted(x, "i -1", x.copy(0, -1, 1, 0, 1), 3);
-        faulted(x, "j -1", x.copy(0, 0, 1, -1, 1), 3);
-        faulted(x, "n -1", x.copy(0, 1, 1, 1, -1), 3);
-        faulted(x, "beyond the first", x.copy(0, 4, 1, 0, 2), 3);
-        faulted(x, "beyond the other", x.copy(0, 0, 1, 2, 2), 3);
-        faulted(x, "none from 6 on", x.copy(0, 6, 1, 0, 0), 3);
-        faulted(x, "none to 4 on", x.copy(0, 0, 1, 4, 0), 3);
+        C.faulted(x, "from nothing", x.copy(3, -1, 0, 0, 1), 1);
+        C.faulted(x, "to nothing", x.copy(0, -1, 3, 0, 1), 1);
+        C.faulted(x, "from nothing to nothing", x.copy(3, -1, 3, 0, -1), 1);
+        C.faulted(x, "unlike lanes", x.copy(0, -1, 2, 0, -1), 2);
+        C.faulted(x, "none of unlike lanes", x.copy(0, 0, 2, 0, 0), 2);
+        C.faulted(x, "i -1", x.copy(0, -1, 1, 0, 1), 3);
+        C.faulted(x, "j -1", x.copy(0, 0, 1, -1, 1), 3);
+        C.faulted(x, "n -1", x.copy(0, 1, 1, 1, -1), 3);
+        C.faulted(x, "beyond the first", x.copy(0, 4, 1, 0, 2), 3);
+        C.faulted(x, "beyond the other", x.copy(0, 0, 1, 2, 2), 3);
+        C.faulted(x, "none from 6 on", x.copy(0, 6, 1, 0, 0), 3);
+        C.faulted(x, "none to 4 on", x.copy(0, 0, 1, 4, 0), 3);
         int top = Integer.MAX_VALUE;
-        faulted(x, "sums that wrap", x.copy(0, top, 1, 0, top), 3);
-        faulted(x, "sums that wrap", x.copy(0, 0, 1, top, 1), 3);
-        faulted(x, "sums that wrap", x.copy(0, 1, 1, 1, top), 3);
-        faulted(x, "sums that wrap", x.copy(0, 1, 1, 1, Integer.MIN_VALUE), 3);
+        C.faulted(x, "sums that wrap", x.copy(0, top, 1, 0, top), 3);
+        C.faulted(x, "sums that wrap", x.copy(0, 0, 1, top, 1), 3);
+        C.faulted(x, "sums that wrap", x.copy(0, 1, 1, 1, top), 3);
+        C.faulted(x, "sums that wrap", x.copy(0, 1, 1, 1, Integer.MIN_VALUE), 3);
         row(x, 0, 1, 2, 3, 4, 5);
         row(x, 1, 9, 9, 9);
     }
