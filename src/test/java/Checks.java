@@ -88,10 +88,12 @@ final class Checks {
         for (int k = 0; k < 4; k++) {
             b.append("| ");
             for (int lane = 0; lane < 3; lane++) {
-                for (int i = 0; i <= 60; i++) {
-                    long v = x.cell(k, i, lane);
-                    b.append(v == YardNames.LOST ? "x" + x.fault() : "" + v).append(' ');
+                long v = 0;
+                for (int i = 0; i <= 60 && v != YardNames.LOST; i++) {
+                    v = x.cell(k, i, lane);
+                    b.append(v).append(' ');
                 }
+                b.append('x').append(x.fault()).append(' ');
             }
         }
         return b.append("| ").append(x.trace()).toString();

@@ -66,7 +66,7 @@ public final class RoomTest {
         long sum = 0;
         long least = Long.MAX_VALUE;
         // The machine itself may make something beside a round, so the leanest round counts.
-        for (int round = 0; round < 20; round++) {
+        for (int round = 0; round < 12; round++) {
             long before = threads.getCurrentThreadAllocatedBytes();
             sum += allCalls(x, round);
             least = Math.min(least, threads.getCurrentThreadAllocatedBytes() - before);
