@@ -1,3 +1,8 @@
+import java.lang.reflect.InvocationTargetException;
+import java.lang.reflect.Method;
+import java.util.Arrays;
+import java.util.Comparator;
+
 /** What the tests share: counting wrong answers, and putting texts and numbers on sheets. */
 final class Checks {
     /** Numbers that no call knows anything of, and the edges of int, at which sums wrap. */
@@ -7,7 +12,7 @@ final class Checks {
     /** The sea of most tests: a BARGE, a CUTTER, a SLOOP and a BARGE in four ports. */
     static final String SEA = "y3725;b2311230;c0400312;s1132040;b2025000";
 
-    private final String test;
+    private String test;
     private int wrong;
 
     Checks(String test) {
@@ -25,6 +30,36 @@ final class Checks {
     void faulted(YardNames x, String what, long got, int fault) {
         due(what, got, -10 - fault);
         due("fault() of " + what, x.fault(), fault);
+    }
+
+    /** Runs all tests of a class that are named after a promise, such as promise07_nDays. */
+    void runPromises(Class<?> tests) {
+        String all = test;
+        Method[] methods = tests.getDeclaredMethods();
+        Arrays.sort(methods, Comparator.comparing(Method::getName));
+        int count = 0;
+        for (Method m : methods) {
+            if (m.getName().startsWith("promise")) {
+                test = all + "." + m.getName();
+                run(m);
+                count++;
+            }
+        }
+        test = all;
+        System.out.println(test + ": " + count + " tests");
+        end();
+    }
+
+    private void run(Method m) {
+        try {
+            m.setAccessible(true);
+            m.invoke(null);
+        } catch (InvocationTargetException e) {
+            e.getCause().printStackTrace(System.out);
+            due("the test itself", 1, 0);
+        } catch (IllegalAccessException e) {
+            throw new IllegalStateException(e);
+        }
     }
 
     void end() {
