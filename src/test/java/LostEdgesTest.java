@@ -1,4 +1,4 @@
-/** The boundary cases of promises 15 to 21: reading, back, strengths, kinds, names, odds, premium. */
+/** The boundary cases of promises 15 to 21: readings, and what they and losses tell. */
 public final class LostEdgesTest {
     private static final Checks C = new Checks("LostEdgesTest");
     private static final int UNKNOWN = YardNames.UNKNOWN, OUTSIDE = YardNames.OUTSIDE;
