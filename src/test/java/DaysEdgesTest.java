@@ -436,6 +436,27 @@ public final class DaysEdgesTest {
             .same(voyage(1, 0), 0).same(voyage(1, 10), 4);
     }
 
+    static void promise10_justAsRoughIsBorne() {
+        // By kind they bear 6 each, so that all lose on 7 and none on 6.
+        pairs("y67;b0602000;c0502000;s0302000", 1, 8, 1, 8).same(voyage(1, 0), 0)
+            .same(voyage(2, 0), 3).same(voyage(2, 3), 3).same(voyage(2, 4), 0)
+            .same(voyage(2, 10), 1).same(voyage(2, 11), 1).same(voyage(2, 12), 1);
+        pairs("y99;b0901000;b0801000;c0801000;c0701000", 1, 8).same(voyage(1, 2), 10);
+        pairs("y99;s0501000;s0401000", 1, 8).same(voyage(1, 2), 2);
+    }
+
+    static void promise10_aNewNameIsGoneBy() {
+        pairs("y99;b0001001", 1, 8).same(voyage(1, 3), 1).due("name(0, 3)", 0)
+            .same(voyage(1, 3), 4).same(voyage(1, 2), 1);
+    }
+
+    static void promise10_ofASeaThatIsMadeAnew() {
+        // The ships of an earlier sea leave nothing in a voyage that is told of a new one.
+        Yard x = pairs("y99;s3919999;s3919999", 9, 8).same(voyage(1, 11), 90);
+        x.text(2, "y90;b0000100").due("sea(2, 0, 0, 12)", 1).same(voyage(1, 0), 1)
+            .same(voyage(1, 2), 1).same(voyage(1, 10), 0).same(voyage(1, 11), NONE);
+    }
+
     static void promise10_whoIsMet() {
         pairs(TWO, 1, 1, 9, 8).same("voyage(1, 2, 0, 1, 2)", 0).same(voyage(2, 2), 3)
             .same("voyage(1, 2, 2, 1, 2)", 3);

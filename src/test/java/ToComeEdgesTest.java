@@ -239,6 +239,52 @@ public final class ToComeEdgesTest {
         stowed(x, "1, 5, 11", 5, 24, 5, 0, 0, 6);
     }
 
+    /** The best of all ways as a row, told as lost, left and pieces, by going day by day. */
+    private static int[] bestWay(int named, int roughDays, int pieces) {
+        int[] best = null;
+        for (int row = 0; row < 10000; row++) {
+            int[] way = {row / 1000, row / 100 % 10, row / 10 % 10, row % 10};
+            if (way[0] + way[1] + way[2] + way[3] == pieces) {
+                int lost = lostOf(way.clone(), named, roughDays);
+                int left = way[0] + 2 * way[1] + 3 * way[2] + 4 * way[3] - lost;
+                if (best == null || lost < best[0] || lost == best[0] && left > best[1]) {
+                    best = new int[] {lost, left, way[0], way[1], way[2], way[3]};
+                }
+            }
+        }
+        return best;
+    }
+
+    private static int lostOf(int[] carried, int named, int roughDays) {
+        int worth = 0;
+        for (int d = 0; d < roughDays; d++) {
+            int goes = named;
+            for (int g = 0; g < 4 && carried[goes] == 0; g++) {
+                goes = g;
+            }
+            if (carried[goes] > 0) {
+                carried[goes]--;
+                worth += goes + 1;
+            }
+        }
+        return worth;
+    }
+
+    static void promise13_theFirstAsARowOfAllThatAreBest() {
+        int[] whats = {0, 1, 10, 11, 12, 13};
+        for (int named = 0; named < 4; named++) {
+            for (int n = 0; n <= 30; n++) {
+                Yard x = sea("y99;b" + named + "000000");
+                for (int pieces = 0; pieces <= 12; pieces++) {
+                    int[] best = bestWay(named, n, pieces);
+                    for (int w = 0; w < whats.length; w++) {
+                        x.due("stow(0, " + n + ", " + pieces + ", " + whats[w] + ")", best[w]);
+                    }
+                }
+            }
+        }
+    }
+
     // ---- 14 cover
 
     private static Yard named(String names) {

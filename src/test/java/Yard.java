@@ -5,6 +5,8 @@ import java.util.Arrays;
 import java.util.HashMap;
 import java.util.List;
 import java.util.Map;
+import java.util.Set;
+import java.util.TreeSet;
 
 /**
  * An object under test whose calls are told as texts, such as "load(0, 3, 9)". As it keeps what was
@@ -13,9 +15,11 @@ import java.util.Map;
  */
 final class Yard {
     private static final int MOST_CALLS = 512;
+    private static final int[] OF_SHIPS = {0, 1, 2, 4, 10, 11, 12, 13};
     private static final List<String> NAMING_FAULTS =
         Arrays.asList("sea", "voyage", "names", "sheet", "put", "cell", "copy", "as");
     private static final Map<String, Method> FACE = face();
+    private static final List<String> PEEKS = peeks();
 
     private final Checks checks;
     private final YardNames object = new YardNames();
@@ -33,6 +37,32 @@ final class Yard {
             }
         }
         return face;
+    }
+
+    /** Calls that look at all parts of an object: of three ships, four ports, six cells a sheet. */
+    private static List<String> peeks() {
+        List<String> peeks = new ArrayList<>(Arrays.asList("trace()", "fault()"));
+        for (int what = 0; what <= 4; what++) {
+            peeks.add("many(" + what + ")");
+        }
+        for (int port = 0; port < 4; port++) {
+            peeks.add("rough(" + port + ")");
+        }
+        for (int k = 0; k < 3; k++) {
+            for (int what : OF_SHIPS) {
+                peeks.add("ofShip(" + k + ", " + what + ")");
+            }
+            peeks.add("strengths(" + k + ")");
+            peeks.add("kinds(" + k + ")");
+        }
+        for (int k = 0; k < 4; k++) {
+            for (int lane = 0; lane < 3; lane++) {
+                for (int i = 0; i < 6; i++) {
+                    peeks.add("cell(" + k + ", " + i + ", " + lane + ")");
+                }
+            }
+        }
+        return peeks;
     }
 
     // ---- making one ready
@@ -81,6 +111,22 @@ final class Yard {
     Yard faulted(String call, int fault) {
         changesNothing(call, fault);
         return due(call, answersLong(call) ? YardNames.LOST : -10 - fault);
+    }
+
+    /** A call behind which all that can be asked answers as before, but for what is told here. */
+    Yard changes(String call, long answer, String... asked) {
+        Set<String> changed = new TreeSet<>();
+        for (String peek : PEEKS) {
+            YardNames one = twin();
+            invoke(one, call);
+            if (invoke(one, peek) != invoke(twin(), peek)) {
+                changed.add(peek);
+            }
+        }
+        Set<String> told = new TreeSet<>(Arrays.asList(asked));
+        checks.due(call + " changed " + changed + ", due are " + told + ", so that it",
+            changed.equals(told) ? 1 : 0, 1);
+        return due(call, answer);
     }
 
     private void changesNothing(String call, int fault) {
@@ -172,7 +218,7 @@ final class Yard {
 
     private static void seenOfShip(YardNames x, int k, StringBuilder b) {
         b.append("| ship ");
-        for (int what : new int[] {0, 1, 2, 4, 10, 11, 12, 13}) {
+        for (int what : OF_SHIPS) {
             b.append(x.ofShip(k, what)).append(' ');
         }
     }
