@@ -512,8 +512,8 @@ public final class SheetsEdgesTest {
     static void promise30_asTheyAreUpToThe512thCall() {
         Yard x = yard().sea(THREE);
         int trace = 0;
-        // 1 and 30 puts, a sheet and a sea are 32 calls.
-        for (int n = 0; n < 478; n++) {
+        // A sheet, 30 puts and a sea were 32 calls; trace() is the 512th.
+        for (int n = 0; n < 479; n++) {
             x.due("hail(0)", 2);
             trace = 31 * trace + 4;
         }
