@@ -9,6 +9,8 @@ public final class YardNames {
     private static final int MOST_DAYS = 30, MOST_TOLD_DAYS = 9, MOST_STOWED = 12;
     private static final int MOST_PAIRS = 20, ACT_DAYS = 8, MOST_READINGS = 8;
     private static final int SHEETS = 4, LANES = 3, MOST_CELLS = 60;
+    /** More than what is lost by any way to STOW: its dearest pieces are worth GOODS each. */
+    private static final int BEYOND_LOSS = MOST_STOWED * GOODS + 1;
 
     private final int[] roughs = new int[MOST_PORTS];
     private int portCount;
@@ -971,7 +973,7 @@ public final class YardNames {
 
         /** Tries all rows, first ones first, so that only a better one takes the place of the best. */
         void choose(int pieces, int namedAfter, int roughCount) {
-            leastLost = Integer.MAX_VALUE;
+            leastLost = BEYOND_LOSS;
             mostLeft = 0;
             for (int a = 0; a <= Math.min(pieces, MOST_PIECES); a++) {
                 tried[0] = a;
