@@ -776,8 +776,9 @@ public final class YardNames {
 
     /** The upper (which 0) or lower number of a share in least terms. */
     private static long ofShare(int upper, int lower, int which) {
+        int number = which == 0 ? upper : lower;
         int common = commonDivisor(upper, lower);
-        return (which == 0 ? upper : lower) / common;
+        return common > 1 ? number / common : number;
     }
 
     private static int commonDivisor(int upper, int lower) {
